@@ -39,6 +39,8 @@ public final class P12SaveTest {
             x.tap(wire, 0);
             x.tap(wire, 1);
             x.swap(wire, 0, 1);
+            x.tap(wire, 0);
+            x.tap(wire, 1);
             x.pedal(wire, 0, 0, 0);
             x.save(wire, 1);
             due.is(2, "recall", () -> x.recall(wire, 2));

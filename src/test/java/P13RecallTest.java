@@ -51,6 +51,8 @@ public final class P13RecallTest {
             x.tap(wire, 0);
             x.tap(wire, 1);
             x.swap(wire, 0, 1);
+            x.tap(wire, 0);
+            x.tap(wire, 1);
             x.pedal(wire, 0, 0, 0);
             due.is(2, "recall again", () -> x.recall(wire, 3));
             due.is(1, "pedals that are on", () -> x.about(wire, 1));
