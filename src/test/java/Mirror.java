@@ -1,10 +1,7 @@
 import java.util.ArrayList;
 import java.util.List;
 
-/**
- * The document told a second time, with Java's own floats, doubles and Math, to hold the program against.
- * It tells the state of a board; what a call refuses is asked in the tests of the promises.
- */
+/** The document told a second time, with Java's own lists, floats, doubles and Math, to hold the program against. */
 final class Mirror {
     static final class Pedal {
         int kind;
@@ -45,7 +42,41 @@ final class Mirror {
         }
     }
 
-    boolean put(int wire, long code) {
+    private Wire wireAt(int wire) {
+        refuse(wire < 0 || wire > 3);
+        return wires[wire];
+    }
+
+    private static void refuse(boolean wrong) {
+        if (wrong) {
+            throw new IllegalArgumentException();
+        }
+    }
+
+    private static void refuseNow(boolean missing) {
+        if (missing) {
+            throw new IllegalStateException();
+        }
+    }
+
+    private static Pedal pedalAt(Wire w, int place) {
+        refuse(place < 0 || place >= w.pedals.size());
+        return w.pedals.get(place);
+    }
+
+    private static long number(int wire, int high, int low) {
+        long bits = ((long) high << 32) + Integer.toUnsignedLong(low);
+        refuse(wire == 2 && Float.isNaN(Float.intBitsToFloat(low)));
+        refuse(wire == 3 && Double.isNaN(Double.longBitsToDouble(bits)));
+        return wire == 0 || wire == 2 ? low : bits;
+    }
+
+    boolean put(int wire, int high, int low) {
+        wireAt(wire);
+        return takeDry(wire, number(wire, high, low));
+    }
+
+    private boolean takeDry(int wire, long code) {
         Wire w = wires[wire];
         boolean another = w.dry != code;
         w.dry = code;
@@ -57,29 +88,34 @@ final class Mirror {
         return another;
     }
 
-    int pedal(int wire, int kind, long knob) {
-        wires[wire].pedals.add(new Pedal(kind, knob));
-        wires[wire].trace = null;
-        return wires[wire].pedals.size() - 1;
+    int pedal(int wire, int kind, int high, int low) {
+        Wire w = wireAt(wire);
+        refuse(kind < 0 || kind > 8 || (wire < 2 && kind > 2 && kind < 8));
+        long knob = number(wire, high, low);
+        refuseNow(w.pedals.size() == 12);
+        w.pedals.add(new Pedal(kind, knob));
+        w.trace = null;
+        return w.pedals.size() - 1;
     }
 
-    boolean turn(int wire, int place, long knob) {
-        Pedal p = wires[wire].pedals.get(place);
+    boolean turn(int wire, int place, int high, int low) {
+        Pedal p = pedalAt(wireAt(wire), place);
+        long knob = number(wire, high, low);
         boolean another = p.knob != knob;
         p.knob = knob;
         return another;
     }
 
     boolean tap(int wire, int place) {
-        Pedal p = wires[wire].pedals.get(place);
+        Pedal p = pedalAt(wireAt(wire), place);
         p.on = !p.on;
         return p.on;
     }
 
     boolean swap(int wire, int a, int b) {
-        Wire w = wires[wire];
-        Pedal p = w.pedals.get(a);
-        Pedal q = w.pedals.get(b);
+        Wire w = wireAt(wire);
+        Pedal p = pedalAt(w, a);
+        Pedal q = pedalAt(w, b);
         w.pedals.set(a, q);
         w.pedals.set(b, p);
         w.trace = null;
@@ -87,6 +123,8 @@ final class Mirror {
     }
 
     int play(int wire, int rounds) {
+        wireAt(wire);
+        refuse(rounds < 1 || rounds > 50);
         int changes = 0;
         for (int i = 0; i < rounds; i++) {
             changes += round(wire);
@@ -118,15 +156,50 @@ final class Mirror {
         return changes;
     }
 
+    long code(int wire, int which) {
+        Wire w = wireAt(wire);
+        refuse(which < 0 || which > 3);
+        refuseNow(which > 1 && w.greatest == null);
+        return which == 0 ? w.dry : which == 1 ? w.wet : which == 2 ? w.greatest : w.least;
+    }
+
+    long trace(int wire, int place) {
+        Wire w = wireAt(wire);
+        pedalAt(w, place);
+        refuseNow(w.trace == null);
+        return w.trace.get(place);
+    }
+
+    boolean light(int wire, int place) {
+        if (wire < 0 || wire > 3 || place < 0 || place >= wires[wire].pedals.size()) {
+            return false;
+        }
+        return wires[wire].trace != null && wires[wire].lights.get(place);
+    }
+
+    int against(int wire) {
+        Wire w = wireAt(wire);
+        if (w.wet == w.dry) {
+            return 0;
+        }
+        boolean zeros = wire == 2 ? asFloat(w.wet) == 0 && asFloat(w.dry) == 0
+                : wire == 3 && asDouble(w.wet) == 0 && asDouble(w.dry) == 0;
+        return zeros ? 2 : compare(wire, w.wet, w.dry) < 0 ? -1 : 1;
+    }
+
     int save(int wire, int preset) {
-        wires[wire].presets.set(preset, copies(wires[wire].pedals));
-        return wires[wire].pedals.size();
+        Wire w = wireAt(wire);
+        refuse(preset < 0 || preset > 3);
+        w.presets.set(preset, copies(w.pedals));
+        return w.pedals.size();
     }
 
     int recall(int wire, int preset) {
-        wires[wire].pedals = copies(wires[wire].presets.get(preset));
-        wires[wire].trace = null;
-        return wires[wire].pedals.size();
+        Wire w = wireAt(wire);
+        refuse(preset < 0 || preset > 3);
+        w.pedals = copies(w.presets.get(preset));
+        w.trace = null;
+        return w.pedals.size();
     }
 
     private static List<Pedal> copies(List<Pedal> pedals) {
@@ -138,34 +211,26 @@ final class Mirror {
     }
 
     long patch(int from, int to) {
-        long code = cast(from, to, wires[from].wet);
-        put(to, code);
+        Wire w = wireAt(from);
+        wireAt(to);
+        long code = cast(from, to, w.wet);
+        takeDry(to, code);
         return code;
     }
 
-    int against(int wire) {
-        Wire w = wires[wire];
-        if (w.wet == w.dry) {
-            return 0;
+    int about(int wire, int what) {
+        if (wire < 0 || wire > 3 || what < 0 || what > 3) {
+            return -1;
         }
-        boolean zeros = wire == 2 ? asFloat(w.wet) == 0 && asFloat(w.dry) == 0
-                : wire == 3 && asDouble(w.wet) == 0 && asDouble(w.dry) == 0;
-        return zeros ? 2 : compare(wire, w.wet, w.dry) < 0 ? -1 : 1;
+        Wire w = wires[wire];
+        return what == 0 ? w.pedals.size() : what == 3 ? w.rounds : countOf(wire, what);
     }
 
-    int on(int wire) {
+    private int countOf(int wire, int what) {
         int n = 0;
-        for (Pedal p : wires[wire].pedals) {
-            n += p.on ? 1 : 0;
-        }
-        return n;
-    }
-
-    int lit(int wire) {
-        Wire w = wires[wire];
-        int n = 0;
-        for (int i = 0; w.trace != null && i < w.lights.size(); i++) {
-            n += w.lights.get(i) ? 1 : 0;
+        for (int i = 0; i < wires[wire].pedals.size(); i++) {
+            boolean counts = what == 1 ? wires[wire].pedals.get(i).on : light(wire, i);
+            n += counts ? 1 : 0;
         }
         return n;
     }

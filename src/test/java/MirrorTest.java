@@ -1,7 +1,7 @@
-/** Long runs of calls, each answer and the whole state behind it held against the Mirror. */
+/** Runs of 512 calls, which is as long as a board is used, with wrong calls among them, each held against the Mirror. */
 public final class MirrorTest {
-    private static final int RUNS = 400;
-    private static final int CALLS = 120;
+    private static final int RUNS = 1500;
+    private static final int MOST_CALLS = 512;
 
     private static final Due due = new Due();
     private static long seed = 20261116L;
@@ -11,96 +11,110 @@ public final class MirrorTest {
         return (int) ((seed >>> 33) % bound);
     }
 
-    private static long anyCode(int wire) {
-        long[] codes = Signals.codes(wire);
+    private static boolean rarely() {
+        return upTo(16) == 0;
+    }
+
+    private static int anyWire() {
+        return rarely() ? upTo(6) - 1 : upTo(4);
+    }
+
+    private static int anyPlace(Mirror m, int wire) {
+        int pedals = Math.max(m.about(wire, 0), 0);
+        return rarely() || pedals == 0 ? upTo(15) - 1 : upTo(pedals);
+    }
+
+    private static long anyBits(int wire) {
+        int sort = wire < 0 || wire > 3 ? upTo(4) : wire;
+        long[] codes = Signals.codes(sort);
+        long[] ills = Signals.ills(sort);
+        if (rarely() && ills.length > 0) {
+            return ills[upTo(ills.length)];
+        }
         if (upTo(3) > 0) {
             return codes[upTo(codes.length)];
         }
         long bits = ((long) upTo(1 << 30) << 34) ^ ((long) upTo(1 << 30) << 17) ^ upTo(1 << 30);
-        switch (wire) {
-            case 0:
-                return (int) bits;
-            case 1:
-                return bits >> upTo(64);
-            case 2:
-                return Float.isNaN(Mirror.asFloat((int) bits)) ? 0 : (int) bits;
-            default:
-                return Double.isNaN(Mirror.asDouble(bits)) ? 0 : bits;
+        return sort == Signals.LONG ? bits >> upTo(64) : bits;
+    }
+
+    private static Object answerOf(Due.Call call) {
+        try {
+            return call.answer();
+        } catch (IllegalArgumentException | IllegalStateException e) {
+            return e.getClass();
         }
     }
 
-    private static int anyKind(int wire) {
-        int kind = upTo(9);
-        return wire < 2 && kind > 2 ? 8 : kind;
+    private static void same(String what, Due.Call mirrored, Due.Call call) {
+        due.is(answerOf(mirrored), what, call);
     }
 
-    private static void call(PedalBoard x, Mirror m) {
-        int wire = upTo(4);
-        int pedals = m.wires[wire].pedals.size();
-        long code = anyCode(wire);
-        int a = upTo(Math.max(pedals, 1));
-        int b = upTo(Math.max(pedals, 1));
-        int what = upTo(pedals == 0 ? 6 : 9);
+    private static void change(PedalBoard x, Mirror m) {
+        int wire = anyWire();
+        int place = anyPlace(m, wire);
+        int other = anyPlace(m, wire);
+        long bits = anyBits(wire);
+        int high = wire == 0 || wire == 2 ? upTo(3) - 1 : Signals.high(bits);
+        int low = Signals.low(bits);
+        int kind = rarely() ? upTo(11) - 1 : Signals.kinds(wire)[upTo(Signals.kinds(wire).length)];
+        int rounds = rarely() ? upTo(54) - 1 : 1 + upTo(3);
+        int preset = rarely() ? upTo(6) - 1 : upTo(4);
+        int to = anyWire();
         String on = " on wire " + wire;
-        switch (what) {
+        switch (upTo(10)) {
             case 0:
-                due.is(m.put(wire, code), "put " + code + on, () -> Signals.put(x, wire, code));
+                same("put" + on, () -> m.put(wire, high, low), () -> x.put(wire, high, low));
                 break;
             case 1:
-                int kind = anyKind(wire);
-                if (pedals < 12) {
-                    due.is(m.pedal(wire, kind, code), "pedal " + kind + on, () -> Signals.pedal(x, wire, kind, code));
-                } else {
-                    due.illegalState("pedal 13" + on, () -> Signals.pedal(x, wire, kind, code));
-                }
-                break;
             case 2:
-                int rounds = 1 + upTo(upTo(8) == 0 ? 50 : 3);
-                due.is(m.play(wire, rounds), "play " + rounds + on, () -> x.play(wire, rounds));
+                same("pedal" + on, () -> m.pedal(wire, kind, high, low), () -> x.pedal(wire, kind, high, low));
                 break;
             case 3:
-                due.is(m.save(wire, a % 4), "save" + on, () -> x.save(wire, a % 4));
+                same("turn" + on, () -> m.turn(wire, place, high, low), () -> x.turn(wire, place, high, low));
                 break;
             case 4:
-                int preset = upTo(4);
-                due.is(m.recall(wire, preset), "recall" + on, () -> x.recall(wire, preset));
+                same("tap" + on, () -> m.tap(wire, place), () -> x.tap(wire, place));
                 break;
             case 5:
-                int to = upTo(4);
-                due.is(m.patch(wire, to), "patch to " + to + on, () -> x.patch(wire, to));
+                same("swap" + on, () -> m.swap(wire, place, other), () -> x.swap(wire, place, other));
                 break;
             case 6:
-                due.is(m.turn(wire, a, code), "turn" + on, () -> Signals.turn(x, wire, a, code));
+                same("save" + on, () -> m.save(wire, preset), () -> x.save(wire, preset));
                 break;
             case 7:
-                due.is(m.tap(wire, a), "tap" + on, () -> x.tap(wire, a));
+                same("recall" + on, () -> m.recall(wire, preset), () -> x.recall(wire, preset));
+                break;
+            case 8:
+                same("patch" + on, () -> m.patch(wire, to), () -> x.patch(wire, to));
                 break;
             default:
-                due.is(m.swap(wire, a, b), "swap" + on, () -> x.swap(wire, a, b));
+                same("play" + on, () -> m.play(wire, rounds), () -> x.play(wire, rounds));
                 break;
         }
     }
 
-    private static void holdAgainst(PedalBoard x, Mirror m, int wire) {
-        Mirror.Wire w = m.wires[wire];
-        String on = " of wire " + wire;
-        due.is(w.dry, "DRY" + on, () -> x.code(wire, 0));
-        due.is(w.wet, "WET" + on, () -> x.code(wire, 1));
-        Object noPeak = Due.ILLEGAL_STATE;
-        due.is(w.greatest == null ? noPeak : w.greatest, "greatest PEAK" + on, () -> x.code(wire, 2));
-        due.is(w.least == null ? noPeak : w.least, "least PEAK" + on, () -> x.code(wire, 3));
-        due.is(m.against(wire), "against" + on, () -> x.against(wire));
-        int[] about = {w.pedals.size(), m.on(wire), m.lit(wire), w.rounds};
-        for (int i = 0; i < about.length; i++) {
-            int what = i;
-            due.is(about[i], "about " + what + on, () -> x.about(wire, what));
-        }
-        for (int i = 0; i <= w.pedals.size(); i++) {
-            int place = i;
-            Object none = i == w.pedals.size() ? Due.ILLEGAL_ARGUMENT : Due.ILLEGAL_STATE;
-            boolean there = i < w.pedals.size() && w.trace != null;
-            due.is(there ? w.trace.get(i) : none, "trace " + i + on, () -> x.trace(wire, place));
-            due.is(there && w.lights.get(i), "light " + i + on, () -> x.light(wire, place));
+    private static void question(PedalBoard x, Mirror m) {
+        int wire = anyWire();
+        int place = anyPlace(m, wire);
+        int which = rarely() ? upTo(6) - 1 : upTo(4);
+        String of = " of wire " + wire;
+        switch (upTo(5)) {
+            case 0:
+                same("code " + which + of, () -> m.code(wire, which), () -> x.code(wire, which));
+                break;
+            case 1:
+                same("trace " + place + of, () -> m.trace(wire, place), () -> x.trace(wire, place));
+                break;
+            case 2:
+                same("light " + place + of, () -> m.light(wire, place), () -> x.light(wire, place));
+                break;
+            case 3:
+                same("against" + of, () -> m.against(wire), () -> x.against(wire));
+                break;
+            default:
+                same("about " + which + of, () -> m.about(wire, which), () -> x.about(wire, which));
+                break;
         }
     }
 
@@ -108,10 +122,11 @@ public final class MirrorTest {
         for (int run = 0; run < RUNS; run++) {
             PedalBoard x = new PedalBoard();
             Mirror m = new Mirror();
-            for (int i = 0; i < CALLS; i++) {
-                call(x, m);
-                for (int wire = 0; wire < 4; wire++) {
-                    holdAgainst(x, m, wire);
+            for (int i = 0; i < MOST_CALLS; i++) {
+                if (i % 3 == 0) {
+                    change(x, m);
+                } else {
+                    question(x, m);
                 }
             }
         }

@@ -1,85 +1,132 @@
 /** Promise 2: put. */
 public final class P02PutTest {
-    private static final Due due = new Due();
-    private static final Refusals refusals = new Refusals(due);
+    private static void dryAndWet(Due due) {
+        for (int wire : Signals.WIRES) {
+            for (long code : Signals.codes(wire)) {
+                PedalBoard x = Boards.played();
+                Signals.put(x, wire, code);
+                due.is(code, "DRY of wire " + wire, () -> x.code(wire, 0));
+                due.is(code, "WET of wire " + wire, () -> x.code(wire, 1));
+            }
+        }
+    }
 
-    private static void ordinary() {
-        for (int i = 0; i < 4; i++) {
-            int wire = i;
+    private static void roundCount(Due due) {
+        for (int wire : Signals.WIRES) {
+            PedalBoard x = Boards.played();
+            due.is(2, "ROUNDS before put", () -> x.about(wire, 3));
+            x.put(wire, 0, 1);
+            due.is(0, "ROUNDS behind put", () -> x.about(wire, 3));
+            due.is(2, "ROUNDS of another wire", () -> x.about((wire + 1) % 4, 3));
+            x.play(wire, 1);
+            due.is(1, "ROUNDS behind put and play", () -> x.about(wire, 3));
+        }
+    }
+
+    private static void withoutPeaks(Due due) {
+        for (int wire : Signals.WIRES) {
+            PedalBoard x = Boards.played();
+            x.put(wire, 0, 1);
+            due.illegalState("the greatest PEAK behind put", () -> x.code(wire, 2));
+            due.illegalState("the least PEAK behind put", () -> x.code(wire, 3));
+        }
+    }
+
+    private static void withoutTrace(Due due) {
+        for (int wire : Signals.WIRES) {
+            PedalBoard x = Boards.played();
+            x.put(wire, 0, 1);
+            due.illegalState("the first trace behind put", () -> x.trace(wire, 0));
+            due.illegalState("the last trace behind put", () -> x.trace(wire, 2));
+            due.is(false, "light behind put", () -> x.light(wire, 2));
+            due.is(0, "lights behind put", () -> x.about(wire, 2));
+        }
+    }
+
+    private static void theSameOneForgetsToo(Due due) {
+        for (int wire : Signals.WIRES) {
+            PedalBoard x = Boards.played();
+            due.is(false, "put of the same DRY", () -> Signals.put(x, wire, Boards.signal(wire)));
+            due.is(Boards.signal(wire), "WET behind it", () -> x.code(wire, 1));
+            due.is(0, "ROUNDS behind it", () -> x.about(wire, 3));
+            due.illegalState("PEAK behind it", () -> x.code(wire, 2));
+            due.illegalState("trace behind it", () -> x.trace(wire, 0));
+            due.is(3, "pedals behind it", () -> x.about(wire, 0));
+            due.is(3, "pedals behind it that are on", () -> x.about(wire, 1));
+        }
+    }
+
+    private static void another(Due due) {
+        for (int wire : Signals.WIRES) {
             PedalBoard x = new PedalBoard();
             long last = 0;
             for (long code : Signals.codes(wire)) {
-                boolean another = code != last;
-                due.is(another, "put " + code + " on wire " + wire, () -> Signals.put(x, wire, code));
+                boolean isAnother = code != last;
+                due.is(isAnother, "put " + code + " on wire " + wire, () -> Signals.put(x, wire, code));
                 due.is(false, "put " + code + " again on wire " + wire, () -> Signals.put(x, wire, code));
-                due.is(code, "DRY of wire " + wire, () -> x.code(wire, 0));
-                due.is(code, "WET of wire " + wire, () -> x.code(wire, 1));
                 last = code;
             }
         }
     }
 
-    private static void eachIntCountsWhereItShould() {
-        PedalBoard x = new PedalBoard();
-        due.is(true, "put(0, 9, 1)", () -> x.put(0, 9, 1));
-        due.is(false, "put(0, -9, 1)", () -> x.put(0, -9, 1));
-        due.is(true, "put(1, 1, -1)", () -> x.put(1, 1, -1));
-        due.is(0x1ffffffffL, "DRY of put(1, 1, -1)", () -> x.code(1, 0));
-        due.is(true, "put(1, -1, 1)", () -> x.put(1, -1, 1));
-        due.is(0xffffffff00000001L, "DRY of put(1, -1, 1)", () -> x.code(1, 0));
-        due.is(true, "put(2, 9, 0x80000000)", () -> x.put(2, 9, 0x80000000));
-        due.is(-2147483648L, "DRY is -0, its bits as an int", () -> x.code(2, 0));
-        due.is(false, "put(2, 0x7fffffff, 0x80000000)", () -> x.put(2, 0x7fffffff, 0x80000000));
-        due.is(true, "put(3, 0x3ff00000, -1)", () -> x.put(3, 0x3ff00000, -1));
-        due.is(0x3ff00000ffffffffL, "DRY of put(3, 0x3ff00000, -1)", () -> x.code(3, 0));
-        due.is(true, "put(3, 0x80000000, 0)", () -> x.put(3, 0x80000000, 0));
-        due.is(true, "put(3, 0, 0) behind -0", () -> x.put(3, 0, 0));
-        due.is(true, "put(3, 0, -1), whose upper bits are no ILL ones", () -> x.put(3, 0, -1));
-    }
-
-    private static void forgetsTheRounds() {
-        for (int i = 0; i < 4; i++) {
-            int wire = i;
-            PedalBoard x = Snapshot.playedBoard();
-            long dry = x.code(wire, 0);
-            due.is(2, "ROUNDS of wire " + wire, () -> x.about(wire, 3));
-            due.is(false, "put of the same DRY on wire " + wire, () -> Signals.put(x, wire, dry));
-            due.is(dry, "WET of wire " + wire, () -> x.code(wire, 1));
-            due.is(0, "ROUNDS behind put on wire " + wire, () -> x.about(wire, 3));
-            due.illegalState("greatest PEAK behind put on wire " + wire, () -> x.code(wire, 2));
-            due.illegalState("least PEAK behind put on wire " + wire, () -> x.code(wire, 3));
-            due.illegalState("trace behind put on wire " + wire, () -> x.trace(wire, 0));
-            due.is(false, "light behind put on wire " + wire, () -> x.light(wire, 1));
-            due.is(3, "pedals behind put on wire " + wire, () -> x.about(wire, 0));
-            int other = (wire + 1) % 4;
-            due.is(2, "ROUNDS of another wire " + other, () -> x.about(other, 3));
+    private static void dryNotWet(Due due) {
+        for (int wire : Signals.WIRES) {
+            PedalBoard x = Boards.played();
+            long wet = x.code(wire, 1);
+            due.is(true, "put of what WET is, and DRY is not", () -> Signals.put(x, wire, wet));
+            PedalBoard y = Boards.played();
+            due.is(false, "put of what DRY is, and WET is not", () -> Signals.put(y, wire, Boards.signal(wire)));
         }
     }
 
-    private static void wrong() {
+    private static void codesOfZeros(Due due) {
+        for (int wire : Signals.FRACTION_WIRES) {
+            PedalBoard x = new PedalBoard();
+            due.is(true, "put of -0 behind 0", () -> Signals.put(x, wire, Signals.code(wire, -0d)));
+            due.is(false, "put of -0 behind -0", () -> Signals.put(x, wire, Signals.code(wire, -0d)));
+            due.is(true, "put of 0 behind -0", () -> Signals.put(x, wire, Signals.code(wire, 0d)));
+            due.is(false, "put of 0 behind 0", () -> Signals.put(x, wire, Signals.code(wire, 0d)));
+        }
+    }
+
+    private static void codesOfHalves(Due due) {
+        PedalBoard x = new PedalBoard();
+        due.is(false, "put of an int with another HIGH", () -> x.put(0, 9, 0));
+        due.is(false, "put of a float with another HIGH", () -> x.put(2, 9, 0));
+        due.is(true, "put of a long with another HIGH", () -> x.put(1, 9, 0));
+        due.is(true, "put of a double with another HIGH", () -> x.put(3, 9, 0));
+        due.is(true, "put of a long with another LOW", () -> x.put(1, 9, 1));
+        due.is(true, "put of a double with another LOW", () -> x.put(3, 9, 1));
+    }
+
+    private static void noWire(Due due) {
         for (int wire : Signals.NO_WIRES) {
-            refusals.illegalArgument("put on wire " + wire, x -> x.put(wire, 0, 1));
+            Refusals.illegalArgument(due, "put on wire " + wire, x -> x.put(wire, 0, 1));
+            Refusals.illegalArgument(due, "put on wire " + wire + " of what would be ILL", x -> x.put(wire, -1, -1));
         }
-        for (int bits : Signals.FLOAT_ILLS) {
-            refusals.illegalArgument("put of ILL " + bits, x -> x.put(2, 0, bits));
-        }
-        for (long bits : Signals.DOUBLE_ILLS) {
-            refusals.illegalArgument("put of ILL " + bits, x -> Signals.put(x, 3, bits));
-        }
-        PedalBoard x = new PedalBoard();
-        for (long bits : Signals.DOUBLE_ILLS) {
-            due.is(true, "put of a long with the bits " + bits, () -> Signals.put(x, 1, bits));
-        }
-        for (int bits : Signals.FLOAT_ILLS) {
-            due.is(true, "put of an int with the bits " + bits, () -> x.put(0, 0, bits));
+    }
+
+    private static void ill(Due due) {
+        for (int wire : Signals.FRACTION_WIRES) {
+            for (long bits : Signals.ills(wire)) {
+                Refusals.illegalArgument(due, "put of ILL " + bits, x -> Signals.put(x, wire, bits));
+            }
         }
     }
 
     public static void main(String[] args) {
-        ordinary();
-        eachIntCountsWhereItShould();
-        forgetsTheRounds();
-        wrong();
-        due.end();
+        Sentences s = new Sentences();
+        s.hold("A wire's DRY and WET become a signal", P02PutTest::dryAndWet);
+        s.hold("its round count 0", P02PutTest::roundCount);
+        s.hold("without PEAKS", P02PutTest::withoutPeaks);
+        s.hold("and TRACE", P02PutTest::withoutTrace);
+        s.hold("without PEAKS and TRACE (behind the same signal too)", P02PutTest::theSameOneForgetsToo);
+        s.hold("whether DRY's CODE was another one", P02PutTest::another);
+        s.hold("whether DRY's CODE (not WET's)", P02PutTest::dryNotWet);
+        s.hold("whether DRY's CODE was another one (0 and -0)", P02PutTest::codesOfZeros);
+        s.hold("whether DRY's CODE was another one (HIGH and LOW)", P02PutTest::codesOfHalves);
+        s.hold("IllegalArgumentException: no wire", P02PutTest::noWire);
+        s.hold("IllegalArgumentException: .. or ILL", P02PutTest::ill);
+        s.end();
     }
 }

@@ -1,99 +1,163 @@
 /** Promise 3: pedal. */
 public final class P03PedalTest {
-    private static final Due due = new Due();
-    private static final Refusals refusals = new Refusals(due);
-
-    private static void ordinary() {
-        for (int i = 0; i < 4; i++) {
-            int wire = i;
+    private static void itsPlace(Due due) {
+        for (int wire : Signals.WIRES) {
             PedalBoard x = new PedalBoard();
-            for (int j = 0; j < 12; j++) {
-                int kind = wire < 2 ? new int[] {0, 1, 2, 8}[j % 4] : j % 9;
-                due.is(j, "the place of pedal " + j + " on wire " + wire, () -> x.pedal(wire, kind, 0, 0));
-                due.is(j + 1, "pedals of wire " + wire, () -> x.about(wire, 0));
-                due.is(j + 1, "pedals of wire " + wire + " that are on", () -> x.about(wire, 1));
+            int[] kinds = Signals.kinds(wire);
+            for (int i = 0; i < Boards.MOST_PEDALS; i++) {
+                int kind = kinds[i % kinds.length];
+                due.is(i, "the place of pedal " + i + " on wire " + wire, () -> x.pedal(wire, kind, 0, 0));
+                due.is(i + 1, "pedals of wire " + wire, () -> x.about(wire, 0));
                 due.is(0, "pedals of another wire", () -> x.about((wire + 1) % 4, 0));
             }
         }
     }
 
-    private static void behindTheOthers() {
-        PedalBoard x = new PedalBoard();
-        x.put(0, 0, -50);
-        x.pedal(0, Signals.RECTIFY, 0, 0);
-        x.pedal(0, Signals.AT_MOST, 0, 20);
-        x.play(0, 1);
-        due.is(20, "WET of -50 upright, then at most 20", () -> x.code(0, 1));
-        due.is(20, "trace", () -> x.trace(0, 1));
-        due.is(2, "pedal", () -> x.pedal(0, Signals.FLIP, 0, 0));
-        due.illegalState("trace behind pedal", () -> x.trace(0, 1));
-        due.is(false, "light behind pedal", () -> x.light(0, 1));
-        due.is(0, "lights behind pedal", () -> x.about(0, 2));
-        due.is(20, "PEAK behind pedal", () -> x.code(0, 2));
-        due.is(1, "ROUNDS behind pedal", () -> x.about(0, 3));
-        due.is(20, "WET behind pedal", () -> x.code(0, 1));
-    }
-
-    private static void noKindOfIt() {
-        for (int i = 0; i < 4; i++) {
-            int wire = i;
-            for (int kind : new int[] {-1, 9, 10, Integer.MIN_VALUE, Integer.MAX_VALUE}) {
-                refusals.illegalArgument("pedal of kind " + kind + " on wire " + wire, x -> x.pedal(wire, kind, 0, 0));
-            }
-        }
-        for (int j = 3; j <= 7; j++) {
-            int kind = j;
-            for (int wire = 0; wire < 2; wire++) {
-                int whole = wire;
-                refusals.illegalArgument("pedal of kind " + kind + " on wire " + wire, x -> x.pedal(whole, kind, 0, 0));
-            }
-        }
-    }
-
-    private static void wrong() {
-        for (int wire : Signals.NO_WIRES) {
-            refusals.illegalArgument("pedal on wire " + wire, x -> x.pedal(wire, 0, 0, 0));
-        }
-        for (int j = 0; j < 9; j++) {
-            int kind = j;
-            for (int bits : Signals.FLOAT_ILLS) {
-                refusals.illegalArgument("pedal " + kind + " with ILL " + bits, x -> x.pedal(2, kind, 0, bits));
-            }
-            for (long bits : Signals.DOUBLE_ILLS) {
-                refusals.illegalArgument("pedal " + kind + " with ILL " + bits, x -> Signals.pedal(x, 3, kind, bits));
-            }
-        }
-    }
-
-    private static PedalBoard full() {
-        PedalBoard x = Snapshot.playedBoard();
-        for (int i = 0; i < 36; i++) {
-            int wire = i / 9;
-            x.pedal(wire, 0, 0, 0);
-        }
-        for (int wire = 0; wire < 4; wire++) {
+    private static void behindTheOthers(Due due) {
+        for (int wire : Signals.WIRES) {
+            PedalBoard x = new PedalBoard();
+            Signals.put(x, wire, Signals.code(wire, -50));
+            x.pedal(wire, Signals.RECTIFY, 0, 0);
+            Signals.pedal(x, wire, Signals.AT_MOST, Signals.code(wire, 20));
+            x.pedal(wire, Signals.FLIP, 0, 0);
             x.play(wire, 1);
+            due.is(Signals.code(wire, 50), "what came out of the first one", () -> x.trace(wire, 0));
+            due.is(Signals.code(wire, 20), "what came out of the second one", () -> x.trace(wire, 1));
+            due.is(Signals.code(wire, -20), "what came out of the third one", () -> x.trace(wire, 2));
         }
-        return x;
     }
 
-    private static void twelveIsAskedLast() {
-        for (int i = 0; i < 4; i++) {
-            int wire = i;
-            refusals.refused(Due.ILLEGAL_STATE, "pedal 13 on wire " + wire, full(), x -> x.pedal(wire, 0, 0, 0));
-            refusals.refused(Due.ILLEGAL_ARGUMENT, "pedal 13 of no kind", full(), x -> x.pedal(wire, 9, 0, 0));
+    private static void whichIsOn(Due due) {
+        for (int wire : Signals.WIRES) {
+            PedalBoard x = new PedalBoard();
+            for (int i = 0; i < Boards.MOST_PEDALS; i++) {
+                x.pedal(wire, 0, 0, 0);
+                due.is(i + 1, "pedals of wire " + wire + " that are on", () -> x.about(wire, 1));
+            }
+            for (int i = 0; i < Boards.MOST_PEDALS; i++) {
+                int place = i;
+                due.is(false, "tap of pedal " + place + ", which was on", () -> x.tap(wire, place));
+            }
+            x.recall(wire, 0);
+            x.pedal(wire, 0, 0, 0);
+            due.is(1, "a new pedal is on where one was that was off", () -> x.about(wire, 1));
         }
-        refusals.refused(Due.ILLEGAL_ARGUMENT, "pedal 13 of kind 3", full(), x -> x.pedal(0, 3, 0, 0));
-        refusals.refused(Due.ILLEGAL_ARGUMENT, "pedal 13, ILL", full(), x -> x.pedal(2, 0, 0, 0x7fc00000));
-        refusals.refused(Due.ILLEGAL_ARGUMENT, "pedal 13, ILL", full(), x -> x.pedal(3, 0, 0x7ff80000, 0));
+    }
+
+    private static void withoutTrace(Due due) {
+        for (int wire : Signals.WIRES) {
+            PedalBoard x = Boards.played();
+            long wet = x.code(wire, 1);
+            x.pedal(wire, Signals.FLIP, 0, 0);
+            for (int i = 0; i < 4; i++) {
+                int place = i;
+                due.illegalState("trace " + place + " behind pedal", () -> x.trace(wire, place));
+                due.is(false, "light " + place + " behind pedal", () -> x.light(wire, place));
+            }
+            due.is(0, "lights behind pedal", () -> x.about(wire, 2));
+            due.is(wet, "the PEAK stays behind pedal", () -> x.code(wire, 2));
+            due.is(wet, "WET stays behind pedal", () -> x.code(wire, 1));
+            due.is(2, "the ROUNDS stay behind pedal", () -> x.about(wire, 3));
+        }
+    }
+
+    private static void anotherWiresTraceStays(Due due) {
+        for (int wire : Signals.WIRES) {
+            PedalBoard x = Boards.played();
+            int other = (wire + 1) % 4;
+            x.pedal(wire, Signals.FLIP, 0, 0);
+            due.is(x.code(other, 1), "trace of wire " + other + " behind pedal on " + wire, () -> x.trace(other, 2));
+        }
+    }
+
+    private static void noWire(Due due) {
+        for (int wire : Signals.NO_WIRES) {
+            Refusals.illegalArgument(due, "pedal on wire " + wire, x -> x.pedal(wire, 0, 0, 0));
+        }
+    }
+
+    private static void noKind(Due due) {
+        for (int wire : Signals.WIRES) {
+            for (int kind : new int[] {-1, 9, 10, Integer.MIN_VALUE, Integer.MAX_VALUE}) {
+                Refusals.illegalArgument(due, "kind " + kind + " on wire " + wire, x -> x.pedal(wire, kind, 0, 0));
+            }
+        }
+    }
+
+    private static void noKindOfIt(Due due) {
+        for (int wire : Signals.WHOLE_WIRES) {
+            for (int kind : Signals.FRACTION_KINDS) {
+                Refusals.illegalArgument(due, "kind " + kind + " on wire " + wire, x -> x.pedal(wire, kind, 0, 0));
+            }
+        }
+    }
+
+    private static void illKnobOfAnyKind(Due due) {
+        for (int wire : Signals.FRACTION_WIRES) {
+            for (int kind : Signals.KINDS) {
+                for (long bits : Signals.ills(wire)) {
+                    Refusals.illegalArgument(due, "kind " + kind + " on wire " + wire + " with ILL " + bits,
+                            x -> Signals.pedal(x, wire, kind, bits));
+                }
+            }
+        }
+    }
+
+    private static void itHasTwelve(Due due) {
+        for (int wire : Signals.WIRES) {
+            for (int kind : Signals.kinds(wire)) {
+                Refusals.refused(due, Due.ILLEGAL_STATE, "pedal 13 on wire " + wire, Boards::full,
+                        x -> x.pedal(wire, kind, 0, 0));
+            }
+            PedalBoard x = Boards.withPedals(wire, 11);
+            due.is(11, "pedal 12 on wire " + wire, () -> x.pedal(wire, 0, 0, 0));
+            due.illegalState("pedal 13 on wire " + wire, () -> x.pedal(wire, 0, 0, 0));
+            due.is(0, "pedal 1 on another wire", () -> x.pedal((wire + 1) % 4, 0, 0, 0));
+        }
+    }
+
+    private static void roomAgain(Due due) {
+        for (int wire : Signals.WIRES) {
+            PedalBoard x = Boards.full();
+            x.recall(wire, 0);
+            due.is(1, "pedal behind a recall of one, where 12 were", () -> x.pedal(wire, 0, 0, 0));
+        }
+    }
+
+    private static void askedLast(Due due) {
+        for (int wire : Signals.NO_WIRES) {
+            Refusals.refused(due, Due.ILLEGAL_ARGUMENT, "pedal 13 on wire " + wire, Boards::full, x -> x.pedal(wire, 0, 0, 0));
+        }
+        for (int wire : Signals.WIRES) {
+            for (int kind : new int[] {-1, 9}) {
+                Refusals.refused(due, Due.ILLEGAL_ARGUMENT, "pedal 13 of kind " + kind, Boards::full, x -> x.pedal(wire, kind, 0, 0));
+            }
+            for (long bits : Signals.ills(wire)) {
+                Refusals.refused(due, Due.ILLEGAL_ARGUMENT, "pedal 13 with ILL " + bits, Boards::full,
+                        x -> Signals.pedal(x, wire, 0, bits));
+            }
+        }
+        for (int wire : Signals.WHOLE_WIRES) {
+            for (int kind : Signals.FRACTION_KINDS) {
+                Refusals.refused(due, Due.ILLEGAL_ARGUMENT, "pedal 13 of kind " + kind, Boards::full, x -> x.pedal(wire, kind, 0, 0));
+            }
+        }
     }
 
     public static void main(String[] args) {
-        ordinary();
-        behindTheOthers();
-        noKindOfIt();
-        wrong();
-        twelveIsAskedLast();
-        due.end();
+        Sentences s = new Sentences();
+        s.hold("A PEDAL behind the others: its place", P03PedalTest::itsPlace);
+        s.hold("A PEDAL behind the others", P03PedalTest::behindTheOthers);
+        s.hold("which is on", P03PedalTest::whichIsOn);
+        s.hold("the wire is without TRACE.", P03PedalTest::withoutTrace);
+        s.hold("the wire (and no other)", P03PedalTest::anotherWiresTraceStays);
+        s.hold("IllegalArgumentException: no wire", P03PedalTest::noWire);
+        s.hold("no KIND", P03PedalTest::noKind);
+        s.hold("no KIND of it", P03PedalTest::noKindOfIt);
+        s.hold("or the KNOB (of any KIND) is ILL.", P03PedalTest::illKnobOfAnyKind);
+        s.hold("IllegalStateException: it has 12", P03PedalTest::itHasTwelve);
+        s.hold("IllegalStateException: it has 12 (not: it had 12)", P03PedalTest::roomAgain);
+        s.hold("(asked last).", P03PedalTest::askedLast);
+        s.end();
     }
 }

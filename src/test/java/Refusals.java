@@ -1,22 +1,21 @@
-/** Calls that must be refused, each on a played board that must be the same behind it. */
+import java.util.function.Supplier;
+
+/** Calls that must be refused, each on a board that must be the same behind it as its twin that was not called. */
 final class Refusals {
     interface Call {
         Object on(PedalBoard x);
     }
 
-    private final Due due;
-
-    Refusals(Due due) {
-        this.due = due;
+    private Refusals() {
     }
 
-    void illegalArgument(String what, Call call) {
-        refused(Due.ILLEGAL_ARGUMENT, what, Snapshot.playedBoard(), call);
+    static void illegalArgument(Due due, String what, Call call) {
+        refused(due, Due.ILLEGAL_ARGUMENT, what, Boards::played, call);
     }
 
-    void refused(Class<?> want, String what, PedalBoard x, Call call) {
-        String before = Snapshot.of(x);
+    static void refused(Due due, Class<?> want, String what, Supplier<PedalBoard> board, Call call) {
+        PedalBoard x = board.get();
         due.is(want, what, () -> call.on(x));
-        due.is(before, "the board behind the refused " + what, () -> Snapshot.of(x));
+        due.is(Boards.probed(board.get()), "the board behind the refused " + what, () -> Boards.probed(x));
     }
 }

@@ -15,7 +15,14 @@ final class Signals {
     static final int POLARITY = 7;
     static final int FLIP = 8;
 
+    static final int[] WIRES = {INT, LONG, FLOAT, DOUBLE};
+    static final int[] WHOLE_WIRES = {INT, LONG};
+    static final int[] FRACTION_WIRES = {FLOAT, DOUBLE};
     static final int[] NO_WIRES = {-1, 4, 5, Integer.MIN_VALUE, Integer.MAX_VALUE};
+
+    static final int[] WHOLE_KINDS = {RECTIFY, AT_MOST, AT_LEAST, FLIP};
+    static final int[] FRACTION_KINDS = {DOWN, UP, NEAR, SIGN, POLARITY};
+    static final int[] KINDS = {RECTIFY, AT_MOST, AT_LEAST, DOWN, UP, NEAR, SIGN, POLARITY, FLIP};
 
     static final float[] FLOATS = {
         0f, 1f, 0.5f, 1.5f, 2.5f, 3.5f, 0.25f, 0.75f, 0.99999994f, 1.0000001f, 0.49999997f, 0.50000006f,
@@ -50,11 +57,12 @@ final class Signals {
         Long.MIN_VALUE, Long.MIN_VALUE + 1,
     };
 
-    static final int[] FLOAT_ILLS = {0x7fc00000, 0x7f800001, 0x7fffffff, 0xff800001, 0xffc00000, -1};
+    /** The first and the last bits of each sign that are not a number, and some between them. */
+    static final int[] FLOAT_ILLS = {0x7f800001, 0x7fc00000, 0x7fffffff, 0xff800001, 0xffc00000, -1};
 
     static final long[] DOUBLE_ILLS = {
-        0x7ff8000000000000L, 0x7ff0000000000001L, 0x7fffffffffffffffL, 0xfff0000000000001L, 0xfff8000000000000L,
-        -1L, 0x7ff00000ffffffffL,
+        0x7ff0000000000001L, 0x7ff00000ffffffffL, 0x7ff8000000000000L, 0x7fffffffffffffffL,
+        0xfff0000000000001L, 0xfff8000000000000L, -1L,
     };
 
     static int high(long bits) {
@@ -82,6 +90,27 @@ final class Signals {
 
     private static int highOf(int wire, long code) {
         return wire == LONG || wire == DOUBLE ? high(code) : NOT_LOOKED_AT;
+    }
+
+    /** The CODE of a number on a wire, for numbers that are the same on every wire they are asked for. */
+    static long code(int wire, double number) {
+        return wire < FLOAT ? (long) number : wire == FLOAT ? f((float) number) : d(number);
+    }
+
+    static int[] kinds(int wire) {
+        return wire < FLOAT ? WHOLE_KINDS : KINDS;
+    }
+
+    /** The bits that are not a number on a wire; none on the whole ones. */
+    static long[] ills(int wire) {
+        if (wire == DOUBLE) {
+            return DOUBLE_ILLS;
+        }
+        long[] ills = new long[wire == FLOAT ? FLOAT_ILLS.length : 0];
+        for (int i = 0; i < ills.length; i++) {
+            ills[i] = FLOAT_ILLS[i];
+        }
+        return ills;
     }
 
     static long f(float signal) {
