@@ -146,8 +146,8 @@ public final class P03PedalTest {
 
     public static void main(String[] args) {
         Sentences s = new Sentences();
-        s.hold("A PEDAL behind the others: its place", P03PedalTest::itsPlace);
-        s.hold("A PEDAL behind the others", P03PedalTest::behindTheOthers);
+        s.hold("A PEDAL behind the others, which is on: its place", P03PedalTest::itsPlace);
+        s.hold("A PEDAL behind the others (by what comes out)", P03PedalTest::behindTheOthers);
         s.hold("which is on", P03PedalTest::whichIsOn);
         s.hold("the wire is without TRACE.", P03PedalTest::withoutTrace);
         s.hold("the wire (and no other)", P03PedalTest::anotherWiresTraceStays);

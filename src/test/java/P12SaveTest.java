@@ -1,5 +1,17 @@
 /** Promise 12: save. */
 public final class P12SaveTest {
+    /** All places get other pedals, so that nothing of the saved ones is left on the wire, before they come back. */
+    private static void bringBack(PedalBoard x, int wire, int preset) {
+        x.recall(wire, preset == 0 ? 1 : 0);
+        for (int i = 0; i < Boards.MOST_PEDALS; i++) {
+            Signals.pedal(x, wire, i % 2 == 0 ? Signals.AT_LEAST : Signals.RECTIFY, Signals.code(wire, 77));
+            if (i % 4 < 2) {
+                x.tap(wire, i);
+            }
+        }
+        x.recall(wire, preset);
+    }
+
     private static void kinds(Due due) {
         for (int wire : Signals.WIRES) {
             int[] kinds = Signals.kinds(wire);
@@ -10,8 +22,7 @@ public final class P12SaveTest {
                 Signals.pedal(y, wire, kind, Boards.knob(wire));
             }
             due.is(kinds.length, "save of every kind", () -> x.save(wire, 1));
-            x.recall(wire, 0);
-            x.recall(wire, 1);
+            bringBack(x, wire, 1);
             Signals.put(x, wire, Boards.signal(wire));
             Signals.put(y, wire, Boards.signal(wire));
             x.play(wire, 1);
@@ -32,8 +43,7 @@ public final class P12SaveTest {
                     Signals.pedal(x, wire, Signals.AT_MOST, codes[from + i]);
                 }
                 x.save(wire, 2);
-                x.recall(wire, 0);
-                x.recall(wire, 2);
+                bringBack(x, wire, 2);
                 for (int i = 0; i < Boards.MOST_PEDALS; i++) {
                     int place = i;
                     long knob = codes[from + i];
@@ -50,8 +60,7 @@ public final class P12SaveTest {
                 x.tap(wire, i);
             }
             x.save(wire, 3);
-            x.recall(wire, 0);
-            x.recall(wire, 3);
+            bringBack(x, wire, 3);
             due.is(8, "pedals that are on", () -> x.about(wire, 1));
             for (int i = 0; i < Boards.MOST_PEDALS; i++) {
                 int place = i;
@@ -108,6 +117,17 @@ public final class P12SaveTest {
         }
     }
 
+    private static void howManyWithSomeOff(Due due) {
+        for (int wire : Signals.WIRES) {
+            PedalBoard x = Boards.withPedals(wire, 3);
+            x.tap(wire, 0);
+            due.is(3, "save of three, one of them off", () -> x.save(wire, 1));
+            x.tap(wire, 1);
+            x.tap(wire, 2);
+            due.is(3, "save of three, all of them off", () -> x.save(wire, 2));
+        }
+    }
+
     private static void overOthers(Due due) {
         for (int wire : Signals.WIRES) {
             PedalBoard x = Boards.full();
@@ -157,8 +177,9 @@ public final class P12SaveTest {
         s.hold("are kept", P12SaveTest::keptAsTheyWere);
         s.hold("in one of its PRESETS", P12SaveTest::oneOfItsPresets);
         s.hold("how many they are. (0 to 12)", P12SaveTest::howMany);
+        s.hold("how many they are. (on or off)", P12SaveTest::howManyWithSomeOff);
         s.hold("are kept in one of its PRESETS (over what was there)", P12SaveTest::overOthers);
-        s.hold("A wire's pedals are kept (and the wire stays as it is)", P12SaveTest::theWireStays);
+        s.hold("are kept in one of its PRESETS (and the wire stays as it is)", P12SaveTest::theWireStays);
         s.hold("IllegalArgumentException: no wire", P12SaveTest::noWire);
         s.hold("or no preset 0 .. 3.", P12SaveTest::noPreset);
         s.end();

@@ -41,6 +41,19 @@ public final class P13RecallTest {
         }
     }
 
+    private static void howManyWithSomeOff(Due due) {
+        for (int wire : Signals.WIRES) {
+            PedalBoard x = Boards.withPedals(wire, 3);
+            x.tap(wire, 0);
+            x.save(wire, 1);
+            x.tap(wire, 1);
+            x.tap(wire, 2);
+            x.save(wire, 2);
+            due.is(3, "recall of three, one of them off", () -> x.recall(wire, 1));
+            due.is(3, "recall of three, all of them off", () -> x.recall(wire, 2));
+        }
+    }
+
     private static void emptyPreset(Due due) {
         for (int wire : Signals.WIRES) {
             for (int i = 1; i < 4; i++) {
@@ -73,10 +86,11 @@ public final class P13RecallTest {
             due.is(false, "the second one's knob", () -> Signals.turn(x, wire, 1, Boards.knob(wire)));
             due.is(false, "tap of the first one, which was on", () -> x.tap(wire, 0));
             due.is(true, "tap of the second one, which was off", () -> x.tap(wire, 1));
-            Signals.put(x, wire, Boards.signal(wire));
             x.recall(wire, 3);
-            x.play(wire, 1);
-            due.is(true, "light of RECTIFY, the first one", () -> x.light(wire, 0));
+            x.tap(wire, 1);
+            Signals.put(x, wire, Signals.code(wire, 7));
+            due.is(1, "play: upright already, then flipped", () -> x.play(wire, 1));
+            due.is(Signals.code(wire, -7), "WET: RECTIFY is the first one, FLIP the second one", () -> x.code(wire, 1));
         }
     }
 
@@ -125,6 +139,7 @@ public final class P13RecallTest {
     public static void main(String[] args) {
         Sentences s = new Sentences();
         s.hold("A wire's pedals become those of a PRESET: how many they are;", P13RecallTest::become);
+        s.hold("how many they are; (on or off)", P13RecallTest::howManyWithSomeOff);
         s.hold("A wire's pedals become those of a PRESET (of a full one)", P13RecallTest::fullOverAny);
         s.hold("A wire's pedals become those of a PRESET (of an empty one)", P13RecallTest::emptyPreset);
         s.hold("those of a PRESET (which stays as it is)", P13RecallTest::thePresetStays);

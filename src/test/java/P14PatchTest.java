@@ -290,7 +290,7 @@ public final class P14PatchTest {
 
     public static void main(String[] args) {
         Sentences s = new Sentences();
-        s.hold("The WET of a wire comes to another one: its CODE there.", P14PatchTest::theWet);
+        s.hold("The WET of a wire .. its CODE there.", P14PatchTest::theWet);
         s.hold("comes, as put() does", P14PatchTest::asPutDoes);
         s.hold("The WET of a wire comes (and stays where it came from)", P14PatchTest::fromStays);
         s.hold("(or the same)", P14PatchTest::theSameWire);

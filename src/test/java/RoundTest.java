@@ -165,6 +165,11 @@ public final class RoundTest {
             x.play(wire, 2);
             due.is(Signals.code(wire, 6), "the greatest PEAK of one play", () -> x.code(wire, 2));
             due.is(Signals.code(wire, -6), "the least PEAK of one play", () -> x.code(wire, 3));
+            Signals.put(x, wire, Signals.code(wire, 6));
+            x.play(wire, 1);
+            x.play(wire, 2);
+            due.is(Signals.code(wire, 6), "the greatest PEAK, of the second of three ROUNDS", () -> x.code(wire, 2));
+            due.is(Signals.code(wire, -6), "the least PEAK, of the two others", () -> x.code(wire, 3));
         }
     }
 
