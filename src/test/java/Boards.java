@@ -56,29 +56,45 @@ final class Boards {
     static String shown(PedalBoard x) {
         StringBuilder text = new StringBuilder();
         for (int wire : Signals.WIRES) {
-            for (int what = 0; what < 4; what++) {
-                text.append(x.about(wire, what)).append(' ').append(codeOf(x, wire, what)).append(' ');
-            }
-            int pedals = x.about(wire, 0);
-            for (int place = 0; place < pedals; place++) {
-                text.append(traceOf(x, wire, place)).append(' ').append(x.light(wire, place)).append(' ');
-            }
-            text.append(x.against(wire)).append('\n');
+            show(x, wire, text);
         }
         return text.toString();
+    }
+
+    private static void show(PedalBoard x, int wire, StringBuilder text) {
+        for (int what = 0; what < 4; what++) {
+            text.append(x.about(wire, what)).append(' ').append(codeOf(x, wire, what)).append(' ');
+        }
+        int pedals = x.about(wire, 0);
+        for (int place = 0; place < pedals; place++) {
+            text.append(traceOf(x, wire, place)).append(' ').append(x.light(wire, place)).append(' ');
+        }
+        text.append(x.against(wire)).append('\n');
     }
 
     /** All that it shows, and then what lies deeper, which changes it: kinds, knobs, which are on, presets. */
     static String probed(PedalBoard x) {
         StringBuilder text = new StringBuilder(shown(x));
         for (int wire : Signals.WIRES) {
-            probePedals(x, wire, text);
-            for (int preset = 0; preset < 4; preset++) {
-                text.append("preset ").append(x.recall(wire, preset)).append(": ");
-                probePedals(x, wire, text);
-            }
+            probe(x, wire, text);
         }
         return text.toString();
+    }
+
+    /** The same of one wire alone. */
+    static String probed(PedalBoard x, int wire) {
+        StringBuilder text = new StringBuilder();
+        show(x, wire, text);
+        probe(x, wire, text);
+        return text.toString();
+    }
+
+    private static void probe(PedalBoard x, int wire, StringBuilder text) {
+        probePedals(x, wire, text);
+        for (int preset = 0; preset < 4; preset++) {
+            text.append("preset ").append(x.recall(wire, preset)).append(": ");
+            probePedals(x, wire, text);
+        }
     }
 
     private static void probePedals(PedalBoard x, int wire, StringBuilder text) {

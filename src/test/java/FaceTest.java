@@ -8,6 +8,8 @@ import java.nio.file.Path;
 import java.util.Arrays;
 import java.util.Set;
 import java.util.TreeSet;
+import java.util.regex.MatchResult;
+import java.util.regex.Matcher;
 import java.util.regex.Pattern;
 
 /** The document's public face, and the rules of LANGUAGE.md that can be seen by a plain look at the class. */
@@ -34,6 +36,18 @@ public final class FaceTest {
         "\\bFloat\\.", "\\bDouble\\.", "\\bStrictMath\\b", "->", "::", "\\bfloat\\b", "\\bdouble\\b", "Exact\\(",
         "\\bSystem\\b", "\\bThread\\b", "\\bstatic \\{",
     };
+
+    /** All that the source may take from Java's library, and the one call of values(). */
+    private static final Set<String> FROM_THE_LIBRARY = Set.of("Math.max", "Math.min", "Long.MIN_VALUE", "Sort.values");
+
+    private static final Set<Class<?>> ENUM_FIELDS = Set.of(int.class, long.class, boolean.class, String.class);
+
+    private static final Pattern METHOD = Pattern.compile("( {4}| {8})((?!if|for|switch|while|return|throw)\\w[^=;]*\\([^;]*)");
+
+    private static final int MOST_PARAMETERS = 7;
+    private static final int MOST_FIELDS = 20;
+    private static final int MOST_CLASSES = 12;
+    private static final int MOST_LINES = 60;
 
     private static final Due due = new Due();
 
@@ -85,18 +99,80 @@ public final class FaceTest {
         }
     }
 
-    private static void theSource() throws IOException {
-        String source = Files.readString(Path.of("src/main/java/PedalBoard.java"));
-        String code = source.replaceAll("(?s)/\\*.*?\\*/", "").replaceAll("//[^\n]*", "").replaceAll("\"[^\"\n]*\"", "");
+    /** The document's own lines stand in the source, and nothing else there is public. */
+    private static void theDocumentsLines(String code) throws IOException {
+        String flat = code.replaceAll("\\s+", " ");
+        for (String line : Face.lines()) {
+            String want = line.contains(" = ") ? line + ";" : line + " {";
+            due.is(true, "the source has " + want, () -> flat.contains(want));
+        }
+        int lines = Face.lines().size();
+        due.is(17, "lines of the document's face", () -> lines);
+        due.is(lines, "the word public in the source", () -> (int) Pattern.compile("\\bpublic\\b").matcher(code).results().count());
+        due.is(0, "the word protected in the source", () -> (int) Pattern.compile("\\bprotected\\b").matcher(code).results().count());
+    }
+
+    private static void theWords(String code) {
         for (String word : NOT_IN_THE_SOURCE) {
             due.is(false, "the source has " + word, () -> Pattern.compile(word).matcher(code).find());
+        }
+        Pattern.compile("\\b[A-Z]\\w*[a-z]\\w*\\.\\w+").matcher(code).results().map(MatchResult::group).forEach(
+                used -> due.is(true, used + " may be used", () -> FROM_THE_LIBRARY.contains(used)));
+        Pattern.compile("throw (.*?);").matcher(code).results().map(MatchResult::group).forEach(
+                thrown -> due.is(true, thrown + " is of a written text",
+                        () -> thrown.matches("throw new Illegal(Argument|State)Exception\\(\\);")));
+    }
+
+    /** A method's head stands one or two steps in, and the bracket that ends it stands just below. */
+    private static void lengths(String code) {
+        String[] lines = code.split("\n");
+        for (int i = 0; i < lines.length; i++) {
+            Matcher head = METHOD.matcher(lines[i]);
+            if (head.matches()) {
+                String end = head.group(1) + "}";
+                int length = 1;
+                while (i + length < lines.length && !lines[i + length].equals(end)) {
+                    length++;
+                }
+                int seen = length;
+                due.is(true, "short enough is " + head.group(2), () -> seen < MOST_LINES);
+            }
+        }
+    }
+
+    private static void sizes(Class<?> c) {
+        for (Method m : c.getDeclaredMethods()) {
+            due.is(true, m + " takes few parameters", () -> m.getParameterCount() <= MOST_PARAMETERS);
+        }
+        long fields = Arrays.stream(c.getDeclaredFields()).filter(f -> !Modifier.isStatic(f.getModifiers())).count();
+        due.is(true, c + " has few fields", () -> fields <= MOST_FIELDS);
+        for (Field f : c.getDeclaredFields()) {
+            if (Modifier.isStatic(f.getModifiers())) {
+                due.is(true, f + " is final", () -> Modifier.isFinal(f.getModifiers()));
+            } else if (c.isEnum()) {
+                due.is(true, f + " may stand in an enum", () -> ENUM_FIELDS.contains(f.getType()));
+            }
+        }
+    }
+
+    private static void theRules() {
+        Class<?>[] inside = PedalBoard.class.getDeclaredClasses();
+        due.is(true, "few classes", () -> inside.length < MOST_CLASSES);
+        sizes(PedalBoard.class);
+        for (Class<?> c : inside) {
+            sizes(c);
         }
     }
 
     public static void main(String[] args) throws IOException {
+        String source = Files.readString(Path.of("src/main/java/PedalBoard.java"));
+        String code = source.replaceAll("(?s)/\\*.*?\\*/", "").replaceAll("//[^\n]*", "").replaceAll("\"[^\"\n]*\"", "");
         theClass();
         members();
-        theSource();
+        theDocumentsLines(code);
+        theWords(code);
+        lengths(code);
+        theRules();
         due.end();
     }
 }

@@ -31,6 +31,31 @@ public final class KindsTest {
         ask(due, Signals.d(want), 3, kind, 0, Signals.d(s));
     }
 
+    /** One pedal in its four states: two knobs, on and off. */
+    private static void kindKnobOnOrOff(Due due) {
+        for (int wire : Signals.WIRES) {
+            for (int kind : Signals.kinds(wire)) {
+                PedalBoard x = new PedalBoard();
+                long s = Boards.signal(wire);
+                for (long knob : new long[] {Boards.knob(wire), Signals.code(wire, -100)}) {
+                    if (x.about(wire, 0) == 0) {
+                        Signals.pedal(x, wire, kind, knob);
+                    } else {
+                        Signals.turn(x, wire, 0, knob);
+                    }
+                    Signals.put(x, wire, s);
+                    x.play(wire, 1);
+                    due.is(Mirror.through(wire, kind, knob, s), "kind " + kind + " with knob " + knob, () -> x.code(wire, 1));
+                    due.is(false, "tap of the pedal, which is on", () -> x.tap(wire, 0));
+                    Signals.put(x, wire, s);
+                    x.play(wire, 1);
+                    due.is(s, "kind " + kind + ", off", () -> x.code(wire, 1));
+                    due.is(true, "tap of the pedal, which is off", () -> x.tap(wire, 0));
+                }
+            }
+        }
+    }
+
     private static void off(Due due) {
         for (int wire : Signals.WIRES) {
             for (int kind : Signals.kinds(wire)) {
@@ -317,6 +342,7 @@ public final class KindsTest {
 
     public static void main(String[] args) {
         Sentences s = new Sentences();
+        s.hold("A PEDAL has a KIND and a KNOB k, and is on or off.", KindsTest::kindKnobOnOrOff);
         s.hold("Off, what comes in goes out.", KindsTest::off);
         s.hold("0 RECTIFY: s without its sign", KindsTest::rectify);
         s.hold("(wires 0, 1: its size;", KindsTest::rectifyWhole);
